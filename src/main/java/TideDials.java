@@ -566,6 +566,9 @@ public final class TideDials {
          * normal number). The digit that normal numbers do not write raises the power's field by one.
          */
         private static long bitsOfSize(double x, int digits, int endlessField) {
+            if (x == 0.0) {
+                return 0L;
+            }
             if (isEndless(x)) {
                 return (long) endlessField << digits;
             }
