@@ -209,8 +209,8 @@ public final class EdgeTest {
         TideDials x = new TideDials();
         past(x);
         due("the past", told(x).toString(), "{count 0=2, count 1=4, count 2=2, count 3=1, count 4=1, count 5=1,"
-            + " count 6=1, count 7=1, count 8=1, dial 0=float -33.25 of 100.0, dial 1=double 2.25 of 7.5, dial 2=none 0,"
-            + " dial 3=none 0, dial 4=none 0, dial 5=none 0, dial 6=none 0, dial 7=none 0,"
+            + " count 6=1, count 7=1, count 8=1, dial 0=float -33.25 of 100.0, dial 1=double 2.25 of 7.5,"
+            + " dial 2=none 0, dial 3=none 0, dial 4=none 0, dial 5=none 0, dial 6=none 0, dial 7=none 0,"
             + " table 0=floats 13.0 0.0 -0.0 Infinity, table 1=doubles -6.5 2.0 Infinity 0.0, table 2=missing,"
             + " table 3=doubles, table 4=floats 1.5 -2.5, table 5=missing, train=fine 77 - - 2007}");
     }
@@ -699,6 +699,31 @@ public final class EdgeTest {
         leftOf("9: the most below 0.0", LEAST, 40, 12345, -37);
         leftOf("9: by the most below 0.0", MOST, 40, LEAST, 38);
         leftOf("9: half of y", 1, -1, 1, 0);
+        leftOfFar("9: near the end of the doubles", 7, 0);
+        leftOfFar("9: near the end of the doubles, by the most", MOST, 40);
+        leftOfFar("9: near the end of the doubles, by the least", -1, -40);
+    }
+
+    /** Of the double that is just not endless after five squares, and of the most float. */
+    private static void leftOfFar(String what, int n, int e) {
+        TideDials x = new TideDials();
+        x.table(0, 0, 2);
+        x.table(1, 1, 2);
+        x.put(1, 1, 0, MOST - 32, 33);
+        x.square(1, 1, 0);
+        x.cross(1, 0, 0, 0, false);
+        x.put(1, 1, 0, MOST, 1);
+        double far = 0x1p32 - 2;
+        for (int k = 0; k < 5; k++) {
+            x.square(1, 1, 0);
+            far *= far;
+        }
+        double y = n * Math.pow(2, e);
+        x.put(0, 0, 1, n, e);
+        x.put(1, 1, 1, n, e);
+        due(what + " (answer)", x.left(0, 0, 0, 0, 1) + x.left(1, 1, 0, 1, 1), 2);
+        due(what + ", floats", numberText(x, 0, 0, 0), "" + Float.MAX_VALUE % (float) y);
+        due(what + ", doubles", numberText(x, 1, 1, 0), "" + far % y);
     }
 
     // ---- Promise 10
@@ -752,6 +777,7 @@ public final class EdgeTest {
         squareTo("10: down to 0.0, doubles", 1, -1, -34, 5, "doubles 0.0");
         float f = 16777215f;
         squareTo("10: rounded as a float", 0, 16777215, 0, 1, "floats " + f * f);
+        squareTo("10: rounded up as a float", 0, 12003, 0, 1, "floats 1.44072016E8");
         squareTo("10: not rounded as a double", 1, 16777215, 0, 1, "doubles 2.81474943156225E14");
     }
 
@@ -1245,6 +1271,7 @@ public final class EdgeTest {
         geared("20: just below ROUND", 1, 8, 7, 1, "double 7.0 of 8.0");
         geared("20: just above ROUND", 1, 8, 3, 3, "double 1.0 of 8.0");
         geared("20: the product is a float", 0, 1 << 29, 16777215, 3, "float " + (16777215f * 3f) + " of 5.3687091E8");
+        geared("20: the product is a float, rounded up", 0, 1 << 29, 16777213, 3, "float 5.033164E7 of 5.3687091E8");
         geared("20: the product is a double", 1, 1 << 29, 16777215, 3, "double 5.0331645E7 of 5.36870912E8");
         changesAfter(x -> {
             x.dial(0, MOST, 40);
