@@ -555,7 +555,7 @@ public final class TideDials {
         }
 
         private static long bits(int kind, double x) {
-            long sign = kind == FLOATS ? Integer.MIN_VALUE : Long.MIN_VALUE;
+            long sign = kind == FLOATS ? -1L << 31 : -1L << 63;
             long rest = kind == FLOATS ? bitsOfSize(size(x), 23, 255) : bitsOfSize(size(x), 52, 2047);
             return hasMinus(x) ? sign + rest : rest;
         }

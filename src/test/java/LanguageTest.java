@@ -8,7 +8,8 @@ public final class LanguageTest {
     private static final String[] RULED_OUT = {
         "^\\s*package\\b", "\\bimport\\b", "%", "->", "::", "\\bcatch\\b", "\\bfinally\\b", "\\btry\\b",
         "\\bassert\\b", "\\bsynchronized\\b", "\\bvar\\b", "\\bDouble\\b", "\\bFloat\\b", "\\bMath\\b",
-        "\\bObject\\b", "\\bequals\\b", "\\bhashCode\\b", "\\btoString\\b", "\\bprotected\\b", "Exact\\b",
+        "\\bInteger\\b", "\\bLong\\b", "\\bString\\b", "\\bObject\\b", "\\bequals\\b", "\\bhashCode\\b",
+        "\\btoString\\b", "\\bprotected\\b", "Exact\\b", "\\binstanceof\\b", "\\bSystem\\b", "\\bArrays?\\b",
         "\\bstrictfp\\b", "\\bnative\\b", "\\bvolatile\\b", "\\bThread\\b", "\\bstatic\\s*\\{",
         "\\bstatic\\s+(?!final\\b|class\\b)[\\w\\[\\]]+\\s+\\w+\\s*[=;]",
         "\\bstatic\\s+final\\s+(double|float)\\b",

@@ -433,7 +433,8 @@ public final class ModelTest {
         }
     }
 
-    private static final int[] ODD_INTS = {Integer.MIN_VALUE, Integer.MAX_VALUE, -1, -2, 7, 8, 12, 13, 200, 201, 41, -41};
+    private static final int[] ODD_INTS = {Integer.MIN_VALUE, Integer.MAX_VALUE, -1, -2, 7, 8, 12, 13, 200,
+        201, 41, -41};
     private static final long[] ODD_LONGS = {Long.MIN_VALUE, Long.MAX_VALUE, Long.MAX_VALUE - 1, 1L << 53,
         (1L << 53) + 1, (1L << 24) + 1, 9223372036854774784L, 0x7fffffbfffffffffL, 0x8000004000000001L, 0, -1,
         // Rounds up to a float straight, and down by way of a double.

@@ -148,8 +148,10 @@ public final class PromiseTest {
         due("5: no first", x.put(5, 1, 0, 7, 0), BEYOND);
         due("5: refused", x.table(0, 1, -1), SIZE);
         floatAt("5: a refusal changes nothing", x, 0, 11, 7f);
+        x.put(0, 0, 0, 3, 0);
         due("5: anew", x.table(0, 0, 12), 1);
         floatAt("5: 0.0 anew", x, 0, 11, 0f);
+        floatAt("5: 0.0 anew at first", x, 0, 0, 0f);
         due("5: the other kind", x.table(0, 1, 3), 1);
         doubleAt("5: 0.0 at first", x, 0, 2, 0.0);
         due("5: fewer places", x.square(0, 1, 3), BEYOND);
@@ -352,6 +354,7 @@ public final class PromiseTest {
         due("10: nothing", x.square(3, 1, 9), NOTHING);
         due("10: beyond", x.square(1, 1, 2), BEYOND);
         due("10: beyond below", x.square(0, 0, -1), BEYOND);
+        due("10: findings are counted", 100 * x.count(3) + 10 * x.count(4) + x.count(5), 121);
         x.put(0, 0, 0, -16777215, -2);
         x.put(1, 1, 0, -16777215, -2);
         due("10: float", x.square(0, 0, 0), 1);
@@ -383,6 +386,7 @@ public final class PromiseTest {
         due("11: not wide, read cast", x.cross(0, 0, 1, 0, false), CAST);
         due("11: not wide, written cast", x.cross(1, 0, 1, 0, false), CAST);
         due("11: not wide, written beyond", x.cross(1, 0, 0, -1, false), BEYOND);
+        due("11: findings are counted", 100 * x.count(3) + 10 * x.count(4) + x.count(5), 234);
         x.put(0, 0, 1, -7, -3);
         due("11: wide", x.cross(0, 1, 1, 0, true), 1);
         doubleAt("11: float made a double", x, 1, 0, -0.875);
@@ -452,23 +456,26 @@ public final class PromiseTest {
 
     private static void ofLong() {
         TideDials x = new TideDials();
-        x.table(0, 0, 1);
-        x.table(1, 1, 1);
+        x.table(0, 0, 2);
+        x.table(1, 1, 2);
         due("13: unknown", x.ofLong(6, 3, 0, 1), UNKNOWN);
         due("13: outside", x.ofLong(0, 2, 0, 1), OUTSIDE);
         due("13: cast", x.ofLong(1, 0, 9, 1), CAST);
         due("13: nothing", x.ofLong(2, 0, 9, 1), NOTHING);
-        due("13: beyond", x.ofLong(1, 1, 1, 1), BEYOND);
+        due("13: beyond", x.ofLong(1, 1, 2, 1), BEYOND);
         due("13: beyond below", x.ofLong(0, 0, -1, 1), BEYOND);
+        due("13: findings are counted", 100 * x.count(3) + 10 * x.count(4) + x.count(5), 121);
         long[] all = {0, 1, -1, 16777216, 16777217, -16777219, 1L << 53, (1L << 53) + 1, Long.MAX_VALUE,
             Long.MIN_VALUE, Long.MAX_VALUE - 1, 9223372036854774784L, (1L << 60) + (1L << 36) + 1,
             -(1L << 60) - (1L << 36) - 1, 1L << 62, 123456789};
         for (long v : all) {
-            due("13: a float tells " + v, x.ofLong(0, 0, 0, v), (long) (float) v == v ? 1 : 0);
-            floatAt("13: the float of " + v, x, 0, 0, (float) v);
-            due("13: a double tells " + v, x.ofLong(1, 1, 0, v), (long) (double) v == v ? 1 : 0);
-            doubleAt("13: the double of " + v, x, 1, 0, (double) v);
+            due("13: a float tells " + v, x.ofLong(0, 0, 1, v), (long) (float) v == v ? 1 : 0);
+            floatAt("13: the float of " + v, x, 0, 1, (float) v);
+            due("13: a double tells " + v, x.ofLong(1, 1, 1, v), (long) (double) v == v ? 1 : 0);
+            doubleAt("13: the double of " + v, x, 1, 1, (double) v);
         }
+        floatAt("13: no other place", x, 0, 0, 0f);
+        doubleAt("13: no other place of doubles", x, 1, 0, 0.0);
     }
 
     private static void through() {
@@ -480,6 +487,7 @@ public final class PromiseTest {
         due("14: unknown dial", x.through(2, 0), UNKNOWN);
         due("14: unknown table", x.through(0, 6), UNKNOWN);
         due("14: nothing", x.through(0, 5), NOTHING);
+        due("14: it is counted", x.count(3), 1);
         x.put(0, 0, 0, 13, -1);
         x.put(0, 0, 1, 5, -2);
         x.put(0, 0, 2, -1, 3);
@@ -547,6 +555,10 @@ public final class PromiseTest {
         float f = 2000000011f;
         float g = 3 * 0x1p-40f;
         due("15: as floats", x.often(0, 0, 0, 1), (long) ((f - f % g) / g));
+        due("15: more than a long, as floats", x.often(0, 0, 0, 1), Long.MAX_VALUE);
+        x.put(0, 0, 0, 3, -20);
+        float h = 3 * 0x1p-20f;
+        due("15: the times are a float", x.often(0, 0, 0, 1), (long) ((f - f % h) / h));
         x.put(1, 1, 0, 3, -20);
         x.put(1, 1, 1, 2000000011, 0);
         double d = 2000000011.0;
@@ -651,6 +663,7 @@ public final class PromiseTest {
         due("20: no wheel", x.gear(0, 2), NOTHING);
         due("20: beyond", x.gear(0, 3), BEYOND);
         due("20: beyond below", x.gear(1, -1), BEYOND);
+        due("20: findings are counted", 10 * x.count(3) + x.count(4), 22);
         due("20: hand 0.0", x.gear(0, 0), 1);
         due("20: stays 0.0", x.hand(0, 0), 0);
         x.turn(0, -33333333, -20);
